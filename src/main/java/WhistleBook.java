@@ -275,13 +275,13 @@ public final class WhistleBook {
     public int bar(int sort, int zone) throws IndexOutOfBoundsException {
         requireFoul(sort, zone);
         bench.open(book.minute, book.seconds);
-        int best = 0;
-        int most = Integer.MIN_VALUE;
+        int best = NONE;
+        int most = 0;
         for (int b = 0; b < STATES; b++) {
             bench.seat(BAR, b);
             bench.lay(sort, zone, book.cardNow(sort));
             int together = bench.worthTogether(0, STATES - 1);
-            if (together > most) {
+            if (best == NONE || together > most) {
                 most = together;
                 best = b;
             }
@@ -433,14 +433,14 @@ public final class WhistleBook {
     public int plain(int sort, int zone) throws IndexOutOfBoundsException {
         requireFoul(sort, zone);
         bench.open(book.minute, book.seconds);
-        int best = 0;
-        int most = Integer.MIN_VALUE;
+        int best = NONE;
+        int most = 0;
         for (int z = 0; z <= ZONES; z++) {
             for (int f = 0; f <= FREES; f++) {
                 bench.seatPlain(z, f);
                 bench.lay(sort, zone, book.cardNow(sort));
                 int together = bench.worthTogether(0, STATES - 1);
-                if (together > most) {
+                if (best == NONE || together > most) {
                     most = together;
                     best = 10 * z + f;
                 }
@@ -740,7 +740,8 @@ public final class WhistleBook {
         void findThings() {
             things = 0;
             int i = 0;
-            while (i < length) {
+            // A blank has one byte, a thing one at least: there are no more of them than bytes.
+            for (int n = 0; n < TAPE && i < length; n++) {
                 if (Row.at(bytes, i) == ' ') {
                     i++;
                 } else {
@@ -754,7 +755,6 @@ public final class WhistleBook {
             next();
         }
 
-        // A thing has one byte at least, so that finding them goes on.
         private int endOfThing(int from) {
             int end = from + 1;
             if (isLetter(Row.at(bytes, from))) {
@@ -776,7 +776,7 @@ public final class WhistleBook {
             Row.put(begins, things, from);
             Row.put(numbers, things, ofDigits && end - from <= 4 ? numberOf(from, end) : NONE);
             Row.put(signs, things, ofDigits || ofLetters ? 0 : first);
-            if (things < words.length) {
+            if (things >= 0 && things < words.length) {
                 words[things] = ofLetters ? Word.of(bytes, from, end) : Word.NO_WORD;
             }
             things++;
@@ -1613,6 +1613,9 @@ public final class WhistleBook {
 
     /** LEARNING. What does not pay by a CARD pays by no greater one: so the bench is asked little. */
     private static final class Lesson {
+        // Above 9999 and all RATES of a SORT together.
+        private static final int ABOVE_ALL_CARDS = 100000;
+
         private final Book book;
         private final Bench bench;
         private final int[] before = new int[SORTS * STATES];
@@ -1628,7 +1631,7 @@ public final class WhistleBook {
             Row.copy(book.rates, before);
             for (int place = 0; place < SORTS * STATES; place++) {
                 Row.put(paysUpTo, place, NONE);
-                Row.put(failsFrom, place, Integer.MAX_VALUE);
+                Row.put(failsFrom, place, ABOVE_ALL_CARDS);
             }
         }
 
@@ -1770,12 +1773,9 @@ public final class WhistleBook {
         }
 
         void weigh(int bar, int sort) {
-            for (int state = 0; state < STATES; state++) {
-                Row.put(leastGains, state, Integer.MAX_VALUE);
-            }
             for (int judge = 0; judge < FIRST_RULE + book.ruleCount; judge++) {
                 bench.seat(judge, bar);
-                int itsWorst = worstOfSeated(sort);
+                int itsWorst = worstOfSeated(sort, judge == 0);
                 if (judge == 0 || itsWorst < worst) {
                     worst = itsWorst;
                     safe = judge;
@@ -1789,15 +1789,15 @@ public final class WhistleBook {
             }
         }
 
-        private int worstOfSeated(int sort) {
-            int greatest = Integer.MIN_VALUE;
+        private int worstOfSeated(int sort, boolean first) {
+            int greatest = 0;
             for (int state = 0; state < STATES; state++) {
                 if (state % FREES == 0) {
                     bench.lay(sort, state / FREES, book.cardNow(sort));
                 }
                 int gain = bench.gain(state);
-                greatest = Math.max(greatest, gain);
-                Row.put(leastGains, state, Math.min(Row.at(leastGains, state), gain));
+                greatest = state == 0 ? gain : Math.max(greatest, gain);
+                Row.put(leastGains, state, first ? gain : Math.min(Row.at(leastGains, state), gain));
             }
             return greatest;
         }
