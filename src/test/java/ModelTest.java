@@ -71,8 +71,12 @@ public final class ModelTest {
     }
 
     private void begin() throws Exception {
-        for (int n = random.nextInt(5); n >= 0; n--) {
-            game();
+        if (chance(10)) {
+            fullGame();
+        } else {
+            for (int n = random.nextInt(5); n >= 0; n--) {
+                game();
+            }
         }
         for (int n = random.nextInt(4); n > 0; n--) {
             sort();
@@ -91,6 +95,21 @@ public final class ModelTest {
             text.append(gameLine()).append(n == 0 ? "" : ";");
         }
         text(text.toString(), "game");
+    }
+
+    /** As many MOVES as 12 texts can tell, and some GOALS. */
+    private void fullGame() throws Exception {
+        for (int n = 0; n < 144; n += 12) {
+            StringBuilder text = new StringBuilder();
+            for (int i = n; i < n + 12; i++) {
+                int from = i % 32;
+                int to = (from + 1 + 5 * (i / 32)) % 32;
+                text.append(i == n ? "" : ";").append("at ").append(from / 4).append(" ").append(from % 4);
+                text.append(i >= 142 ? "goal " : "to " + to / 4 + " " + to % 4 + " ");
+                text.append(1 + random.nextInt(20));
+            }
+            read(text.toString(), "game");
+        }
     }
 
     private String gameLine() {
@@ -196,7 +215,10 @@ public final class ModelTest {
 
     private void text(String right, String kind) throws Exception {
         String drawn = chance(5) ? spoil(right) : right;
-        String text = drawn.length() > 400 ? drawn.substring(0, 400) : drawn;
+        read(drawn.length() > 400 ? drawn.substring(0, 400) : drawn, kind);
+    }
+
+    private void read(String text, String kind) throws Exception {
         compare("end(0)", () -> book.end(0), () -> model.end(0));
         Check.feed(book::feed, book::end, text);
         Check.feed(model::feed, model::end, text);

@@ -313,6 +313,12 @@ public final class PromiseTest {
         due("0 at least", x::goal, 0);
         withGoals(x, "", 0);
         due("an empty one", x::goal, 0);
+        withGoals(x, "add 1;add 2;add 4;add 8;add 16;add 32;add 64;add 128;add 256;add 512;add 1024;add 2048", 12);
+        due("12 LINES", x::goal, 4095);
+        withGoals(x, "add 1 if not not not not not not 1 > 0;add 2 if ((((((1>0))))))", 2);
+        due("6 deep", x::goal, 3);
+        goalsFault("add 1 if not not not not not not not 1 > 0", 33);
+        goalsFault("add 1 if (((((((1 > 0)))))))", 15);
         withGoals(x, "add 8 if minute>39", 1);
         fed(x, "add");
         due("wrong goals", x::goals, NUMBER);
@@ -600,6 +606,13 @@ public final class PromiseTest {
         due("an empty one waits", () -> late.does(RULE + 1, 0, 0, 0, 0, 0), 2);
         due("as the first one", () -> late.does(RULE, 0, 2, 0, 0, 0), 1);
         due("no third", () -> late.does(RULE + 2, 0, 0, 0, 0, 0), PLACE);
+
+        StringBuilder text = new StringBuilder();
+        for (int n = 0; n < 11; n++) {
+            text.append("wait if 1 > 2;");
+        }
+        WhistleBook twelfth = ruled(text + "stop if 2 > 1");
+        due("the twelfth LINE", () -> twelfth.does(RULE, 0, 0, 0, 0, 0), 0);
     }
 
     // Promise 20
@@ -756,6 +769,8 @@ public final class PromiseTest {
         due("the very greatest", () -> x.least(ALWAYS, 0, 0, 1 << 31), 9999);
         withGoals(x, "add 9822;add 9821", 2);
         due("just none", () -> x.least(ALWAYS, 0, 0, 1 << 31), NONE);
+        x.rate(0, 0, 100);
+        due("just none but for PATIENCE", () -> x.least(ALWAYS, 0, 0, 1 << 31), 10000 - 33);
         due("bar", () -> x.least(BAR, -1, 0, 0), NUMBER);
         due("judge", () -> x.least(-1, 0, 0, 0), PLACE);
         due("sort", () -> x.least(0, 0, 1, 0), PLACE);
@@ -820,6 +835,8 @@ public final class PromiseTest {
         due("one of nine", () -> ninth.match(RULE, 0, false), 2000);
         ninth.horizon(1);
         due("one of nine by 1 second", () -> ninth.match(RULE, 0, false), (8 * 1500 + 4400) / 9);
+        ninth.lost(15);
+        due("8 ninths are none", () -> ninth.match(RULE, 0, false), (8 * 1500 + 4397) / 9);
     }
 
     // Promise 31
@@ -841,6 +858,11 @@ public final class PromiseTest {
         due("61 rounds", () -> x.learn(BEST, 0), NONE);
         due("RATES stay", () -> x.often(0, 31), 61);
         due("all of them", () -> x.often(0, 1), 7);
+        x.sort(1200, 0);
+        x.rate(0, 31, 999);
+        x.rate(0, 1, 0);
+        x.rate(1, 30, 2);
+        due("each SORT by its own CARD", () -> x.learn(ALWAYS, 0), 2);
         due("bar", () -> x.learn(BAR, 32), NUMBER);
         due("judge", () -> x.learn(5, 32), PLACE);
         due("judge -1", () -> x.learn(-1, 0), PLACE);
