@@ -2,6 +2,8 @@ import java.lang.reflect.Constructor;
 import java.lang.reflect.Field;
 import java.lang.reflect.Method;
 import java.lang.reflect.Modifier;
+import java.nio.file.Files;
+import java.nio.file.Path;
 import java.util.Set;
 import java.util.TreeSet;
 
@@ -54,7 +56,7 @@ public final class FaceTest {
     private FaceTest() {
     }
 
-    public static void main(String[] args) {
+    public static void main(String[] args) throws Exception {
         Class<?> face = WhistleBook.class;
         Check.due("public and final", Modifier.toString(face.getModifiers()), "public final");
         Set<String> names = methods(face);
@@ -75,7 +77,29 @@ public final class FaceTest {
                 Check.due("a name of the face: " + method, names.contains(method.getName()), false);
             }
         }
+        asInTheDocument();
         Check.end("FaceTest");
+    }
+
+    // Names, numbers and told exceptions of each call, word by word.
+    private static void asInTheDocument() throws Exception {
+        String source = inOneLine(Files.readString(Path.of("src/main/java/WhistleBook.java")));
+        String document = Files.readString(Path.of("../shared/DOC.md"));
+        String told = document.substring(document.indexOf("```java\n") + 8);
+        int lines = 0;
+        for (String line : told.substring(0, told.indexOf("```")).split("\n")) {
+            String due = line.strip();
+            if (due.startsWith("public") && due.endsWith(";")) {
+                boolean call = due.endsWith(");") || due.contains(" throws ");
+                Check.due(due, source.contains(call ? due.replace(";", " {") : due), true);
+                lines++;
+            }
+        }
+        Check.due("lines of the face", lines, 44);
+    }
+
+    private static String inOneLine(String source) {
+        return source.replaceAll("\\s+", " ");
     }
 
     private static Set<String> methods(Class<?> face) {
